@@ -175,7 +175,12 @@ public final class WheelDesk {
         }
         history.keep(craft);
         sharing.measure(craft, NONE);
-        return pass(craft, ticks);
+        int met = 0;
+        for (int i = 0; i < ticks; i++) {
+            passOne(craft);
+            met += craft.isMet() ? 1 : 0;
+        }
+        return met;
     }
 
     public int time() {
@@ -333,33 +338,24 @@ public final class WheelDesk {
     // ---- numbers
 
     private static long limited(long value, long least, long greatest) {
-        return Math.max(least, Math.min(value, greatest));
+        if (value < least) {
+            return least;
+        }
+        return value > greatest ? greatest : value;
     }
 
-    // Every divisor of the class is tested here, so that no division can throw.
+    // The divisor is tested here, so that no division can throw.
     private static long quotient(long value, long divisor) {
         return divisor > 0 ? Math.floorDiv(value, divisor) : 0;
-    }
-
-    private static long nearest(long value, long divisor) {
-        return quotient(2 * value + divisor, 2 * divisor);
     }
 
     private static int axisAfter(int axis, int steps) {
         return (axis + steps) % AXES;
     }
 
-    // ---- motion; the sharing must have measured the craft, for no wheel fails while time passes
+    // ---- motion
 
-    private int pass(Craft moved, int ticks) {
-        int met = 0;
-        for (int i = 0; i < ticks; i++) {
-            passOne(moved);
-            met += moved.isMet() ? 1 : 0;
-        }
-        return met;
-    }
-
+    // The sharing must have measured the craft: this is not done here, as no wheel fails while time passes.
     private void passOne(Craft moved) {
         moved.now++;
         moved.findWish();
@@ -373,7 +369,9 @@ public final class WheelDesk {
         trial.become(craft);
         trial.wheelRow[wheel].failed = true;
         sharing.measure(trial, NONE);
-        pass(trial, ticks);
+        for (int i = 0; i < ticks; i++) {
+            passOne(trial);
+        }
         return trial.offTarget();
     }
 
@@ -398,9 +396,7 @@ public final class WheelDesk {
         }
 
         void become(Wheel other) {
-            for (int i = 0; i < AXES; i++) {
-                direction[i] = other.direction[i];
-            }
+            System.arraycopy(other.direction, 0, direction, 0, AXES);
             momentum = other.momentum;
             mostMomentum = other.mostMomentum;
             mostTorque = other.mostTorque;
@@ -662,7 +658,8 @@ public final class WheelDesk {
             for (int i = 0; i < AXES; i++) {
                 sum += wheel.direction[i] * aimed[i];
             }
-            return nearest(-sum, determinant);
+            // NEAREST(-sum, D), with the divisor tested
+            return spans() ? Math.floorDiv(determinant - 2 * sum, 2 * determinant) : 0;
         }
 
         void share(Craft craft) {

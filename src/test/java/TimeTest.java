@@ -194,15 +194,19 @@ public final class TimeTest {
         fieldLimited();
     }
 
-    /** A desk whose wheels hold 7000, -5000 and 3000, whose law does nothing, with a field. */
     private static WheelDesk loaded(int b0, int b1, int b2, int limit) {
+        return loadedWith(new int[] {7000, -5000, 3000}, b0, b1, b2, limit);
+    }
+
+    /** A desk whose wheels hold some momenta, whose law does nothing, with a field. */
+    private static WheelDesk loadedWith(int[] held, int b0, int b1, int b2, int limit) {
         WheelDesk desk = Desks.threeWheels();
         desk.set(0, 0);
         desk.set(1, 100);
         desk.set(3, 100000);
-        desk.strike(0, 7000);
-        desk.strike(1, -5000);
-        desk.strike(2, 3000);
+        for (int axis = 0; axis < 3; axis++) {
+            desk.strike(axis, held[axis]);
+        }
         desk.tick(1);
         desk.set(1, 0);
         desk.set(4, limit);
@@ -229,6 +233,12 @@ public final class TimeTest {
         // m = (-3000, 0, 7000) / 1000
         Check.due("rounded down at 0", desk.axis(0, 1), -1);
         Check.due("rounded down at 2", desk.axis(2, 1), -1);
+        desk = loadedWith(new int[] {100000, 0, 0}, 0, 0, 50, 10000);
+        desk.tick(1);
+        // m = (0, -5000, 0)
+        Check.due("-5000 * 50 / 100", desk.axis(0, 1), -2500);
+        Check.due("nothing at 1", desk.axis(1, 1), 0);
+        Check.due("nothing at 2", desk.axis(2, 1), 0);
     }
 
     private static void fieldLimited() {

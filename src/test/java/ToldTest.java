@@ -31,9 +31,10 @@ public final class ToldTest {
         }
         desk.fail(0, true);
         Check.due("a failed wheel's momentum counts", desk.axis(0, 3), 58);
+        desk.setAxis(1, 1, -300);
         desk.tick(1);
-        Check.due("the wish is told, also if they do not span", desk.axis(0, 9), 60 * (9 - 9));
-        Check.due("the wish at another axis", desk.axis(1, 9), 0);
+        Check.due("the wish is told, also if they do not span", desk.axis(1, 9), -1800);
+        Check.due("the wish at another axis", desk.axis(2, 9), 0);
         desk.setAxis(0, 0, 1000);
         Check.due("the rate is what it is now", desk.axis(0, 2), 0);
         Check.refuses("axis(0, 10)", Desks::busy, d -> d.axis(0, 10), Check.ERROR);
@@ -160,6 +161,18 @@ public final class ToldTest {
         flat.tick(1);
         Check.due("none failed: why(0)", flat.why(0), 1);
         Check.due("none failed: why(1)", flat.why(1), WheelDesk.NONE);
+        for (int i = 0; i < 5; i++) {
+            flat.addWheel(1, 2, i, 10, 10);
+            flat.setAxis(0, 1, 1000);
+        }
+        flat.fail(5, true);
+        flat.tick(1);
+        Check.due("six wheels, in a plane: why(0)", flat.why(0), 1);
+        Check.due("six wheels, the last one failed", flat.why(1), 15);
+        flat.fail(5, false);
+        flat.tick(1);
+        Check.due("six wheels, none failed: why(0)", flat.why(0), 1);
+        Check.due("six wheels, none failed: why(1)", flat.why(1), WheelDesk.NONE);
         WheelDesk full = Desks.full();
         for (int k = 5; k >= 3; k--) {
             full.fail(k, true);
@@ -177,6 +190,7 @@ public final class ToldTest {
 
     private static void fullness() {
         Check.dueFloat("without wheels", new WheelDesk().fullness(), 0f);
+        Check.dueFloat("six empty wheels", Desks.full().fullness(), 0f);
         WheelDesk desk = new WheelDesk();
         desk.addWheel(1, 0, 0, 300, 100000);
         desk.addWheel(0, 1, 0, 700, 100000);
