@@ -62,6 +62,15 @@ public final class HistoryTest {
             desk.undo();
         }
         Check.due("four acts undone", desk.fingerprint(), other.fingerprint());
+        WheelDesk reasons = Desks.threeWheels();
+        reasons.fail(2, true);
+        reasons.tick(1);
+        reasons.fail(2, false);
+        reasons.tick(1);
+        Check.due("met: why(1)", reasons.why(1), WheelDesk.NONE);
+        reasons.undo();
+        Check.due("the reasons come back: why(0)", reasons.why(0), 1);
+        Check.due("the reasons come back: why(1)", reasons.why(1), 12);
         desk.tick(30);
         other.tick(30);
         Check.due("it goes on as if nothing had been", desk.fingerprint(), other.fingerprint());

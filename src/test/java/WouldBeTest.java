@@ -6,6 +6,7 @@ public final class WouldBeTest {
         spare();
         gravest();
         gravestByDrift();
+        gravestAsMade();
         Check.end();
     }
 
@@ -114,5 +115,39 @@ public final class WouldBeTest {
         turned.addWheel(0, 0, 1, 1000000, 1000);
         turned.setAxis(0, 1, -10000);
         Check.due("the strong one, behind the weak one", turned.gravest(10), 1);
+    }
+
+    /** It drifts over its target: wheel 0 can be missed, without wheel 1 the drift goes on. */
+    private static WheelDesk crossing() {
+        WheelDesk desk = Desks.threeWheels();
+        desk.addWheel(1, 0, 0, 1000000, 100000);
+        desk.strike(0, 1000);
+        desk.setAxis(0, 1, 100);
+        return desk;
+    }
+
+    /** What is tried for a number of ticks is what comes if the wheel fails and they are made. */
+    private static void gravestAsMade() {
+        int firsts = 0;
+        for (int ticks = 1; ticks <= 40; ticks++) {
+            int due = 0;
+            for (int k = 1; k < 4; k++) {
+                due = offWithout(k, ticks) > offWithout(due, ticks) ? k : due;
+            }
+            firsts += due == 0 ? 1 : 0;
+            Check.due("gravest(" + ticks + ")", crossing().gravest(ticks), due);
+        }
+        Check.due("the gravest one changes with the ticks", firsts > 5 && firsts < 35 ? 1 : 0, 1);
+    }
+
+    private static long offWithout(int wheel, int ticks) {
+        WheelDesk desk = crossing();
+        desk.fail(wheel, true);
+        desk.tick(ticks);
+        long sum = 0;
+        for (int axis = 0; axis < 3; axis++) {
+            sum += Math.abs(desk.axis(axis, 6) - desk.axis(axis, 0));
+        }
+        return sum;
     }
 }
