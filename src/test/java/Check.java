@@ -52,6 +52,10 @@ final class Check {
 
     /** Both tell the same now and at every step back. */
     static void same(String what, WheelDesk one, WheelDesk other) {
+        dueFloat(what + " fullness()", one.fullness(), other.fullness());
+        due(what + " spare()", one.spare(), other.spare());
+        due(what + " arrives(1000)", one.arrives(1000), other.arrives(1000));
+        due(what + " gravest(7)", one.gravest(7), other.gravest(7));
         for (int i = 0; i <= 5; i++) {
             due(what + " fingerprint() after " + i + " undo()", one.fingerprint(), other.fingerprint());
             due(what + " undo() " + i, one.undo(), other.undo());

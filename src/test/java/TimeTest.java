@@ -77,19 +77,6 @@ public final class TimeTest {
         Check.due("craft at 2", desk.axis(2, 1), 600);
     }
 
-    /** A desk whose wheel 0 wishes just the momentum of the craft at axis 0 (within 100000). */
-    private static WheelDesk direct(int momentum, int torque) {
-        WheelDesk desk = new WheelDesk();
-        desk.addWheel(1, 0, 0, momentum, torque);
-        desk.addWheel(0, 1, 0, 100, 100);
-        desk.addWheel(0, 0, 1, 100, 100);
-        desk.setAxis(0, 0, 1);
-        desk.set(0, 0);
-        desk.set(1, 1);
-        desk.set(3, 100000);
-        return desk;
-    }
-
     private static void strikeAndTick(WheelDesk desk, int momentum, int got, int reason) {
         String name = "momentum " + momentum + " with " + desk.wheel(0, 3) + " of " + desk.wheel(0, 4)
                 + " and torque " + desk.wheel(0, 5);
@@ -106,7 +93,7 @@ public final class TimeTest {
     }
 
     private static void wheelLimits() {
-        WheelDesk desk = direct(100, 500);
+        WheelDesk desk = Desks.direct(100, 500);
         strikeAndTick(desk, 60, 60, 0);
         strikeAndTick(desk, 60, 40, 3);
         strikeAndTick(desk, 1, 0, 3);
@@ -129,7 +116,7 @@ public final class TimeTest {
     }
 
     private static void beyondTheGreatest() {
-        WheelDesk desk = direct(100, 500);
+        WheelDesk desk = Desks.direct(100, 500);
         strikeAndTick(desk, 100, 100, 0);
         desk.setMost(0, false, 40);
         strikeAndTick(desk, 0, 0, 0);
@@ -195,25 +182,7 @@ public final class TimeTest {
     }
 
     private static WheelDesk loaded(int b0, int b1, int b2, int limit) {
-        return loadedWith(new int[] {7000, -5000, 3000}, b0, b1, b2, limit);
-    }
-
-    /** A desk whose wheels hold some momenta, whose law does nothing, with a field. */
-    private static WheelDesk loadedWith(int[] held, int b0, int b1, int b2, int limit) {
-        WheelDesk desk = Desks.threeWheels();
-        desk.set(0, 0);
-        desk.set(1, 100);
-        desk.set(3, 100000);
-        for (int axis = 0; axis < 3; axis++) {
-            desk.strike(axis, held[axis]);
-        }
-        desk.tick(1);
-        desk.set(1, 0);
-        desk.set(4, limit);
-        desk.setAxis(0, 2, b0);
-        desk.setAxis(1, 2, b1);
-        desk.setAxis(2, 2, b2);
-        return desk;
+        return Desks.loaded(new int[] {7000, -5000, 3000}, new int[] {b0, b1, b2}, limit);
     }
 
     private static void fieldAround() {
@@ -233,7 +202,7 @@ public final class TimeTest {
         // m = (-3000, 0, 7000) / 1000
         Check.due("rounded down at 0", desk.axis(0, 1), -1);
         Check.due("rounded down at 2", desk.axis(2, 1), -1);
-        desk = loadedWith(new int[] {100000, 0, 0}, 0, 0, 50, 10000);
+        desk = Desks.loaded(new int[] {100000, 0, 0}, new int[] {0, 0, 50}, 10000);
         desk.tick(1);
         // m = (0, -5000, 0)
         Check.due("-5000 * 50 / 100", desk.axis(0, 1), -2500);
@@ -288,12 +257,7 @@ public final class TimeTest {
     }
 
     private static WheelDesk old() {
-        WheelDesk desk = Desks.threeWheels();
-        for (int i = 0; i < 249; i++) {
-            desk.tick(200);
-        }
-        desk.tick(199);
-        return desk;
+        return Desks.aged(49999);
     }
 
     private static void greatestTime() {
@@ -314,7 +278,6 @@ public final class TimeTest {
         Check.due("the last tick again", desk.tick(1), 1);
         desk.strike(0, 300);
         Check.due("arrives() beyond the greatest time", desk.arrives(5), struck().arrives(5));
-        Check.due("gravest() beyond the greatest time", desk.gravest(100), 0);
     }
 
     private static WheelDesk struck() {
