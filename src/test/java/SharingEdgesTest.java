@@ -438,6 +438,10 @@ public final class SharingEdgesTest {
         Check.due("no tick since it was added", desk.wheel(3, 7), 0);
         Check.due("what another one got is told still", desk.wheel(0, 7), -2000);
         desk.tick(1);
+        Check.due("the fourth one got some", desk.wheel(3, 7) != 0 ? 1 : 0, 1);
+        Check.due("added behind it", desk.addWheel(3, 0, 0, 1000, 1000), 4);
+        Check.due("no tick since it was added", desk.wheel(4, 7), 0);
+        desk.undo();
         Check.due("a tick since it was added", desk.wheel(3, 7) != 0 ? 1 : 0, 1);
         int got = desk.wheel(3, 7);
         desk.fail(3, true);
